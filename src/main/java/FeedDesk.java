@@ -315,11 +315,11 @@ public final class FeedDesk {
     }
 
     private static boolean hasBit(int mask, int bit) {
-        return (mask >> bit & 1) == 1;
+        return ((mask >> bit) & 1) == 1;
     }
 
     private static int withBit(int mask, int bit, int is) {
-        return is == 1 ? mask | 1 << bit : mask & ~(1 << bit);
+        return is == 1 ? mask | (1 << bit) : mask & ~(1 << bit);
     }
 
     private static int sendIndex(int feed, int channel) {
@@ -562,7 +562,7 @@ public final class FeedDesk {
                 if (!fade.isTouched(slider)) sliders[slider] = fade.positionOf(slider, scenes[base + slider]);
             }
             if (fade.isInTheMiddle()) {
-                muted = muted & fade.touched | scenes[base + SLIDERS] & ~fade.touched;
+                muted = (muted & fade.touched) | (scenes[base + SLIDERS] & ~fade.touched);
             }
             if (fade.step >= fade.ticks) fade.end();
         }

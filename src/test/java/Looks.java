@@ -1,4 +1,7 @@
-/** Everything that can be seen of a desk, as one text, so that two looks can be compared. */
+/**
+ * What can be seen of a desk, as one text, so that two looks can be compared. A look takes some 330 calls, so that
+ * there is room for a text of 140 characters ahead of it: nothing is promised beyond 512 calls.
+ */
 final class Looks {
     private Looks() {
     }
@@ -19,7 +22,7 @@ final class Looks {
         scenes(desk, seen);
         seen.append(" later");
         for (int feed = 0; feed < 4; feed++) {
-            for (int ticks = 1; ticks <= 100; ticks += 9) seen.append(' ').append(desk.outputIn(feed, ticks));
+            for (int ticks = 1; ticks <= 100; ticks += 18) seen.append(' ').append(desk.outputIn(feed, ticks));
         }
         return seen.toString();
     }
@@ -38,7 +41,7 @@ final class Looks {
                 seen.append(' ').append(desk.group(index, what)).append(' ').append(desk.feed(index, what));
             }
             for (int channel = 0; channel < 12; channel++) {
-                seen.append(' ').append(desk.send(index, channel, 0)).append('/').append(desk.send(index, channel, 1));
+                seen.append(' ').append(desk.send(index, channel, 0));
             }
         }
     }

@@ -241,6 +241,8 @@ public final class PromiseTest {
         due("to another", desk.setReturn(1, 0), 11);
         due("return", desk.feed(1, 1), 0);
         due("return", desk.feed(0, 1), NONE);
+        due("taken, the channel 0 as well", desk.setReturn(0, 0), ILLEGAL);
+        due("it is in the channel's words, too", desk.channel(0, 8), 1);
         FeedDesk fresh = new FeedDesk();
         fresh.setReturn(2, 3);
         for (int wrong : WRONG_NUMBERS) {
@@ -299,6 +301,12 @@ public final class PromiseTest {
         due("mute at once", desk.channel(1, 2), 1);
         due("100 ticks", desk.recall(1, 100), 0);
         due("ticks", desk.count(5), 100);
+        desk.setChannel(0, 1, 5);
+        due("1 tick", desk.recall(1, 1), 1);
+        due("not at once", desk.channel(0, 1), 5);
+        due("ticks", desk.count(5), 1);
+        desk.run(1);
+        due("but in this tick", desk.channel(0, 1), 40);
         FeedDesk fresh = new FeedDesk();
         fresh.store(0);
         for (int wrong : WRONG_NUMBERS) due("scene " + wrong, fresh.recall(wrong, 1), INVALID);
@@ -727,6 +735,7 @@ public final class PromiseTest {
         error("c0m\t;", 3);
         error("c0m;" + (char) 255, 4);
         error("c0f5;c1f6;x0:1=1;q", 17);
+        staleText();
         FeedDesk desk = type(new FeedDesk(), "c0f5;q");
         due("nothing changes", desk.load(), -1005);
         due("fader", desk.channel(0, 1), 0);
@@ -741,6 +750,23 @@ public final class PromiseTest {
         error(spaces.toString(), 140);
     }
 
+    /** What was in the text ahead of clearText() must not be read any more. */
+    private static void staleText() {
+        String[] texts = {"c0m", "c0", "c0g0", "x0:1=1", "x0:1", "x0"};
+        for (String text : texts) {
+            for (String stale : new String[] {"c0ms;", "c0g01;", "x0:1=1;", "x0:1=12,", ";;;;;;;;"}) {
+                FeedDesk desk = type(new FeedDesk(), stale);
+                desk.clearText();
+                due("load of '" + text + "' in place of '" + stale + "'", type(desk, text).load(), -1000 - text.length());
+            }
+        }
+        for (String end : new String[] {"c0", "c0m", "c0i", "c0i1", "c0g", "c0g1", "x", "x0", "x0:", "x0:1", "x0:1="}) {
+            StringBuilder longest = new StringBuilder();
+            while (longest.length() + end.length() < 140) longest.append(' ');
+            error(longest.append(end).toString(), 140);
+        }
+    }
+
     private static void error(String text, int position) {
         due("load of '" + text + "'", type(new FeedDesk(), text).load(), -1000 - position);
         unchangedBy("load of '" + text + "'", desk -> type(desk, text), desk -> desk.load());
@@ -750,6 +776,7 @@ public final class PromiseTest {
         checks.part("15 count");
         FeedDesk desk = desk("c0i100f50;c11i100f50g2;c3i5;");
         due("audible", desk.count(8), 1 | 1 << 11);
+        due("the level 1 is audible", desk("c5f1;").count(8), 1 << 5);
         desk.setGroup(2, 1, 1);
         desk.setGroup(0, 1, 1);
         due("soloed", desk.count(7), 5);
@@ -944,6 +971,16 @@ public final class PromiseTest {
         return desk;
     }
 
+    /** A loop of all four feeds: from channel 0 by the feeds 3, 2, 1 and 0 over the channels 9, 5 and 7. */
+    private static FeedDesk downward() {
+        FeedDesk desk = desk("c0f100;c9f90;c5f80;c7f70;x3:0=99;x2:9=99;x1:5=99;x0:7=99;");
+        desk.setReturn(3, 9);
+        desk.setReturn(2, 5);
+        desk.setReturn(1, 7);
+        desk.setReturn(0, 0);
+        return desk;
+    }
+
     private static void path() {
         checks.part("22 path");
         FeedDesk desk = chain();
@@ -968,8 +1005,17 @@ public final class PromiseTest {
         due("the smaller channel", two.path(0, 2, 1), 2);
         two.setSend(2, 2, 0);
         due("the only one", two.path(0, 2, 1), 8);
+        int[] back = {4, 0, 9, 5, 7, NONE};
+        for (int index = -1; index <= 4; index++) due("downward", downward().path(0, 0, index), back[index + 1]);
+        due("over the channel 0", downward().path(7, 3, -1), 2);
+        due("over the channel 0", downward().path(7, 3, 1), 0);
 
-        // The smaller channel at the second place leads nowhere; they differ at the third.
+        FeedDesk zero = desk("c3f100;c0f100;c5f100;x0:3=100;x1:3=100;x2:0=100,5=100;");
+        zero.setReturn(0, 0);
+        zero.setReturn(1, 5);
+        due("the channel 0 is the smallest", zero.path(3, 2, 1), 0);
+
+        // Two ways by the same second channel, which differ at the third.
         FeedDesk deep = desk("c0f100;c8f100;c2f100;c4f100;x0:0=100;x1:8=100;x2:8=100;x3:2=100,4=100;");
         deep.setReturn(0, 8);
         deep.setReturn(1, 4);
@@ -1001,6 +1047,9 @@ public final class PromiseTest {
         due("the longer one is louder", desk.loudest(0, 3), 47);
         desk.setSend(3, 0, 48);
         due("the shorter one is louder", desk.loudest(0, 3), 48);
+        due("69 * 69 / 100, downward", downward().loudest(0, 0), 47);
+        due("over the channel 0: 69 * 99 / 100", downward().loudest(7, 3), 68);
+        due("one step of the gain 1", desk("c0f1;x0:0=100;").loudest(0, 0), 1);
         FeedDesk soft = desk("c0f100;c1f100;x0:0=9;x1:1=9;");
         soft.setReturn(0, 1);
         due("a path with the gain 0", soft.loudest(0, 1), 0);
@@ -1030,6 +1079,10 @@ public final class PromiseTest {
         due("0 * 1 / 100 is no way", desk.loops(), 0);
         desk.setSend(1, 5, 2);
         due("a loop by itself", desk.loops(), 2);
+        FeedDesk down = downward();
+        due("all four, downward", down.loops(), 15);
+        down.setReturn(0, -1);
+        due("open", down.loops(), 0);
         desk.setOwner(1, 5, 1);
         due("left out, since it owns the feed", desk.loops(), 0);
         desk.setOwner(1, 5, 0);
@@ -1051,6 +1104,9 @@ public final class PromiseTest {
         due("11 reaches nothing", desk.hearers(3), 1 | 1 << 9);
         desk.setSend(1, 9, 0);
         due("broken", desk.hearers(3), 0);
+        FeedDesk down = downward();
+        down.setOwner(0, 0, 1);
+        due("by four feeds, downward", down.hearers(0), 1);
         for (int wrong : WRONG_NUMBERS) due("feed " + wrong, desk.hearers(wrong), INVALID);
         due("feed -1", desk.hearers(-1), INVALID);
         due("feed 4", desk.hearers(4), INVALID);
@@ -1071,6 +1127,7 @@ public final class PromiseTest {
         int[] fade = {0, 25, 50, 75, 100, 100};
         for (int ticks = 0; ticks < fade.length; ticks++) due("in the fade", desk.outputIn(1, ticks), fade[ticks]);
         due("the fade stands", desk.count(4), 0);
+        outputInFades();
         desk.setReturn(1, 0);
         int[] loop = {0, 25, 62, 121, 221, 321};
         for (int ticks = 0; ticks < loop.length; ticks++) due("in the loop", desk.outputIn(1, ticks), loop[ticks]);
@@ -1083,6 +1140,27 @@ public final class PromiseTest {
         due("ticks -1", desk.outputIn(0, -1), INVALID);
         due("ticks 101", desk.outputIn(0, 101), INVALID);
         due("ticks least", desk.outputIn(0, Integer.MIN_VALUE), INVALID);
+    }
+
+    private static void outputInFades() {
+        FeedDesk desk = desk("c3i100f80;x2:3=100;");
+        desk.store(4);
+        desk.setChannel(3, 1, 20);
+        desk.store(5);
+        desk.setChannel(3, 1, 40);
+        desk.recall(4, 4);
+        desk.run(1);
+        int[] up = {50, 60, 70, 80, 80};
+        for (int ticks = 0; ticks < up.length; ticks++) due("to the scene 4", desk.outputIn(2, ticks), up[ticks]);
+        desk.recall(5, 3);
+        int[] down = {50, 40, 30, 20, 20};
+        for (int ticks = 0; ticks < down.length; ticks++) due("to the scene 5", desk.outputIn(2, ticks), down[ticks]);
+        desk.run(1);
+        desk.undo();
+        desk.undo();
+        for (int ticks = 0; ticks < up.length; ticks++) due("undone", desk.outputIn(2, ticks), up[ticks]);
+        desk.run(1);
+        due("undone", desk.channel(3, 1), 60);
     }
 
     private static void cut() {
