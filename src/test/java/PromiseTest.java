@@ -56,40 +56,20 @@ public final class PromiseTest {
     }
 
     private static FeedDesk type(FeedDesk desk, String text) {
-        for (char character : text.toCharArray()) desk.append(character);
-        return desk;
+        return Desks.type(desk, text);
     }
 
     private static FeedDesk desk(String patch) {
-        FeedDesk desk = type(new FeedDesk(), patch);
-        checks.holds("a patch that is right: " + patch, desk.load() >= 0);
-        return desk;
+        return Desks.loaded(patch);
     }
 
     /** Looks at a desk of its own each time, since nothing is promised beyond 512 calls. */
     private static String lookAfter(Consumer<FeedDesk> calls) {
-        FeedDesk desk = new FeedDesk();
-        calls.accept(desk);
-        return Looks.at(desk);
+        return Looks.at(Desks.after(calls));
     }
 
     private static void unchangedBy(String what, Consumer<FeedDesk> setUp, Consumer<FeedDesk> call) {
         checks.same(what, lookAfter(setUp.andThen(call)), lookAfter(setUp));
-    }
-
-    /** A desk in whose state every part is something else than on a new one, with a fade going on. */
-    private static void busy(FeedDesk desk) {
-        type(desk, "c0i800f90g01;c1i600f80s;c2f70m;c3f100;x0:0=100,1=90,2=80,3=100;x1:0=50,2=90,3=100;").load();
-        desk.setReturn(0, 3);
-        desk.setOwner(1, 0, 1);
-        desk.setGroup(1, 0, 60);
-        desk.store(2);
-        desk.setChannel(0, 1, 10);
-        desk.setGroup(0, 1, 1);
-        desk.recall(2, 9);
-        desk.run(3);
-        desk.setChannel(1, 2, 0);
-        type(desk, "c9i9");
     }
 
     // ---- the promises
@@ -566,7 +546,7 @@ public final class PromiseTest {
     }
 
     private static void undoOfEach() {
-        Consumer<FeedDesk> setUp = PromiseTest::busy;
+        Consumer<FeedDesk> setUp = Desks::busy;
         String state = stateAfter(setUp);
         undone(state, "setChannel", desk -> desk.setChannel(0, 1, 55));
         undone(state, "setChannel", desk -> desk.setChannel(0, 2, 1));
@@ -591,18 +571,16 @@ public final class PromiseTest {
     }
 
     private static String stateAfter(Consumer<FeedDesk> calls) {
-        FeedDesk desk = new FeedDesk();
-        calls.accept(desk);
-        return Looks.state(desk);
+        return Looks.state(Desks.after(calls));
     }
 
     private static void undone(String state, String what, Consumer<FeedDesk> action) {
         checks.holds(what + " changes something", !state.equals(stateAfter(desk -> {
-            busy(desk);
+            Desks.busy(desk);
             action.accept(desk);
         })));
         checks.same("undo of " + what, stateAfter(desk -> {
-            busy(desk);
+            Desks.busy(desk);
             action.accept(desk);
             desk.undo();
         }), state);
@@ -1189,7 +1167,7 @@ public final class PromiseTest {
 
     private static void errorsChangeNothing() {
         checks.part("errors");
-        Consumer<FeedDesk> setUp = PromiseTest::busy;
+        Consumer<FeedDesk> setUp = Desks::busy;
         unchangedBy("setChannel", setUp, desk -> desk.setChannel(0, 0, 1001));
         unchangedBy("setGroup", setUp, desk -> desk.setGroup(0, 0, 101));
         unchangedBy("setSend", setUp, desk -> desk.setSend(0, 0, 101));
@@ -1206,7 +1184,7 @@ public final class PromiseTest {
 
     private static void looksChangeNothing() {
         checks.part("looks");
-        unchangedBy("paths and what would be", PromiseTest::busy, desk -> {
+        unchangedBy("paths and what would be", Desks::busy, desk -> {
             for (int feed = 0; feed < 4; feed++) {
                 desk.outputIn(feed, 7);
                 desk.cut(feed);
