@@ -28,6 +28,7 @@ public final class EdgeTest {
         signalOfTheTickBefore();
         outputIsCutOff();
         eachRoundedDown();
+        gainsAreOfLevels();
         clipsOfAllFeeds();
         mainSumIsNotCutOff();
         peakIfGreater();
@@ -35,6 +36,7 @@ public final class EdgeTest {
         mainSumThen();
         runOfManyIsOneAction();
         undoOfClips();
+        undoOfSumAndPeak();
         whyInOrder();
         historyOfFive();
         everyActionOnce();
@@ -372,6 +374,23 @@ public final class EdgeTest {
         due("0 + 0 + 0 + 2", desk.feed(3, 2), 2);
     }
 
+    private static void gainsAreOfLevels() {
+        part("the sum of signal * gain / 100, the gain being that of the level");
+        FeedDesk desk = desk("c0i100f80g1;c1i100f80;c2i100f80m;c3i100f80;x0:0=50,1=50,2=50,3=50;x1:0=50,3=50;");
+        desk.setGroup(1, 0, 50);
+        desk.setOwner(0, 3, 1);
+        due("40 + 80 + 0 + 80", desk.run(1), 200);
+        due("20 + 40 + 0, and the owner is left out", desk.feed(0, 2), 60);
+        due("20 + 40", desk.feed(1, 2), 60);
+        desk.setGroup(1, 1, 1);
+        due("40, the others are soloed away", desk.run(1), 40);
+        due("20", desk.feed(0, 2), 20);
+        desk.setChannel(1, 3, 1);
+        due("40 and the safe one, 80", desk.run(1), 120);
+        due("20 + 40", desk.feed(0, 2), 60);
+        due("20", desk.feed(1, 2), 20);
+    }
+
     private static void clipsOfAllFeeds() {
         part("a clip for each feed and tick");
         FeedDesk desk = new FeedDesk();
@@ -542,6 +561,23 @@ public final class EdgeTest {
         due("peak", desk.count(2), 0);
         due("main sum", desk.count(1), 0);
         due("signal", desk.channel(0, 6), 0);
+    }
+
+    private static void undoOfSumAndPeak() {
+        part("the main sum and the peak are each restored as they were");
+        FeedDesk desk = desk("c0i90f100;");
+        desk.run(1);
+        desk.setChannel(0, 0, 40);
+        desk.run(1);
+        desk.reset();
+        desk.run(1);
+        int[] sums = {40, 40, 90, 90, 0};
+        int[] peaks = {0, 90, 90, 90, 0};
+        for (int index = 0; index < 5; index++) {
+            due("one back", desk.undo(), 4 - index);
+            due("main sum", desk.count(1), sums[index]);
+            due("peak", desk.count(2), peaks[index]);
+        }
     }
 
     private static void everyActionOnce() {

@@ -18,10 +18,13 @@ public final class FadeEdgeTest {
         fadeIsOver();
         fadeInPlace();
         undoWithinAFade();
+        undoOfFadingMasters();
         touchedAhead();
         touchedByWhat();
         touchedGroups();
         touchedMutes();
+        touchedOnesKeepWhatTheyHave();
+        touchedTwice();
         touchedAll();
         touchedOnlyInThisFade();
         ahead();
@@ -307,6 +310,25 @@ public final class FadeEdgeTest {
         due("nothing moves", over.channel(0, 1), 0);
     }
 
+    private static void undoOfFadingMasters() {
+        part("a is what it was when the fade began, for a master that undo() brings back, too");
+        FeedDesk desk = new FeedDesk();
+        for (int group = 0; group < 4; group++) desk.setGroup(group, 0, 10 * group);
+        desk.store(0);
+        for (int group = 0; group < 4; group++) desk.setGroup(group, 0, 100 - 10 * group);
+        desk.recall(0, 10);
+        desk.run(5);
+        for (int group = 0; group < 4; group++) desk.setGroup(group, 0, 77);
+        desk.recall(0, 10);
+        for (int left = 5; left > 0; left--) desk.undo();
+        due("behind the fifth step", desk.count(4), 5);
+        desk.run(2);
+        int[] want = {30, 34, 38, 42};
+        for (int group = 0; group < 4; group++) due("in step 7 of 10", desk.group(group, 0), want[group]);
+        desk.run(3);
+        for (int group = 0; group < 4; group++) due("at the end", desk.group(group, 0), 10 * group);
+    }
+
     private static void touchedAhead() {
         part("A channel whose fader or mute is set by hand while a fade is going on is touched");
         for (int steps = 0; steps <= 5; steps++) {
@@ -376,6 +398,41 @@ public final class FadeEdgeTest {
         desk.run(1);
         due("touched behind the middle: the mute stays", desk.channel(2, 2), 0);
         due("touched behind the middle: the fader stays", desk.channel(2, 1), 50);
+    }
+
+    private static void touchedOnesKeepWhatTheyHave() {
+        part("a channel that is touched keeps its mute, muted or not, safe or not");
+        FeedDesk desk = desk("c1m;c3m;c5ms;c7ms;");
+        desk.store(1);
+        for (int channel = 0; channel < 8; channel++) desk.setChannel(channel, 2, 1 - channel % 2);
+        desk.setChannel(4, 3, 1);
+        desk.setChannel(6, 3, 1);
+        desk.recall(1, 2);
+        for (int channel : new int[] {0, 3, 4, 7}) desk.setChannel(channel, 1, 50);
+        desk.run(1);
+        int[] mutes = {1, 1, 0, 0, 1, 1, 0, 0};
+        for (int channel = 0; channel < 8; channel++) due("mute " + channel, desk.channel(channel, 2), mutes[channel]);
+        desk.run(1);
+        for (int channel = 0; channel < 8; channel++) due("mute " + channel, desk.channel(channel, 2), mutes[channel]);
+    }
+
+    private static void touchedTwice() {
+        part("set by hand more than once, it is still touched");
+        FeedDesk desk = fading(0, 100, 10);
+        for (int times = 1; times <= 4; times++) {
+            desk.setChannel(0, times % 2 + 1, 0);
+            due("the channel, " + times + " times", desk.channel(0, 7), 1);
+            desk.setGroup(0, 0, times);
+            due("the group, " + times + " times", desk.group(0, 3), 1);
+            desk.run(1);
+            due("fader", desk.channel(0, 1), 0);
+            due("master", desk.group(0, 0), times);
+        }
+        load(desk, "c0f5m;c0f6m;");
+        due("in a patch", desk.channel(0, 7), 1);
+        desk.run(6);
+        due("fader", desk.channel(0, 1), 6);
+        due("mute", desk.channel(0, 2), 1);
     }
 
     private static void touchedAll() {

@@ -12,9 +12,12 @@ public final class PathEdgeTest {
         notSoManyChannels();
         longestPath();
         tiesOfPaths();
+        tiesInEachOrder();
         overTheChannel0();
         pathsAndOneStep();
         loudestEdges();
+        gainsInTheirOrder();
+        noWayFromAFeedThatIsNotReached();
         feedsWithoutReturn();
         hearersEdges();
         cutEdges();
@@ -123,6 +126,20 @@ public final class PathEdgeTest {
         due("a shorter one goes ahead, whatever its channels", second.path(5, 3, -1), 1);
     }
 
+    private static void tiesInEachOrder() {
+        part("the smaller channel, whatever the feed that comes back into it");
+        int[][] orders = {{1, 2, 3}, {1, 3, 2}, {2, 1, 3}, {2, 3, 1}, {3, 1, 2}, {3, 2, 1}};
+        for (int[] order : orders) {
+            FeedDesk desk = desk("c5f100;c1f100;c2f100;c3f100;x0:5=100;x1:5=100;x2:5=100;x3:1=100,2=100,3=100;");
+            for (int feed = 0; feed < 3; feed++) desk.setReturn(feed, order[feed]);
+            for (int smallest = 1; smallest <= 3; smallest++) {
+                due("the second channel", desk.path(5, 3, 1), smallest);
+                desk.setSend(3, smallest, 0);
+            }
+            due("none is left", desk.path(5, 3, 1), NONE);
+        }
+    }
+
     private static void overTheChannel0() {
         part("the channel 0 is the smallest one");
         for (int before = 0; before < 3; before++) {
@@ -200,6 +217,40 @@ public final class PathEdgeTest {
         four.setSend(3, 0, 97);
         due("the shorter one is louder by 1", four.loudest(0, 3), 97);
         due("the greatest gain of all", chain(new int[] {3, 1, 0, 2}).loudest(0, 2), 100);
+    }
+
+    private static void gainsInTheirOrder() {
+        part("for each of its channels, in their order, it becomes gain * (gain of the channel into the feed) / 100");
+        int[][] table = {{50, 67, 99, 32}, {99, 67, 50, 33}, {99, 50, 67, 32}, {67, 50, 99, 32}, {67, 99, 50, 33}};
+        for (int[] row : table) {
+            FeedDesk desk = desk("c4f100;c8f100;c6f100;");
+            desk.setSend(2, 4, row[0]);
+            desk.setSend(0, 8, row[1]);
+            desk.setSend(1, 6, row[2]);
+            desk.setReturn(2, 8);
+            desk.setReturn(0, 6);
+            due(row[0] + " * " + row[1] + " / 100 * " + row[2] + " / 100", desk.loudest(4, 1), row[3]);
+        }
+    }
+
+    private static void noWayFromAFeedThatIsNotReached() {
+        part("each of the others being the return of the feed that the channel ahead of it reaches in one step");
+        for (int first = 0; first < 4; first++) {
+            for (int second = 0; second < 4; second++) {
+                if (first == second) continue;
+                FeedDesk desk = desk("c0f100;c5f100;");
+                desk.setReturn(first, 5);
+                desk.setSend(second, 5, 60);
+                due("no path", desk.path(0, second, -1), NONE);
+                due("no gain", desk.loudest(0, second), NONE);
+                desk.setOwner(second, 0, 1);
+                due("nobody hears itself", desk.hearers(second), 0);
+                desk.setSend(first, 0, 50);
+                due("a path now", desk.path(0, second, -1), 2);
+                due("50 * 60 / 100", desk.loudest(0, second), 30);
+                due("the owner hears itself", desk.hearers(second), 1);
+            }
+        }
     }
 
     private static void feedsWithoutReturn() {
